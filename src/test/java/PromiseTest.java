@@ -38,6 +38,8 @@ public final class PromiseTest {
         promise26MostDemand();
         promise27BestCell();
         promise27BestCellOfSeveral();
+        promise27BestCellByQuality();
+        promise27FullLand();
         Check.end("PromiseTest");
     }
 
@@ -403,6 +405,12 @@ public final class PromiseTest {
         Check.equal("14: distance 1 + 1", 1000, planner.signal(0, 0));
         planner.turn(0);
         Check.equal("14: off as well", 1000, planner.signal(0, 0));
+        CellPlanner inside = new CellPlanner();
+        inside.cell(30, 40, 0, 10);
+        inside.walker(33, 38, 1);
+        inside.walker(28, 43, 1);
+        Check.equal("14: distance 3 + 2", 326, inside.signal(0, 0));
+        Check.equal("14: distance 2 + 3", 326, inside.signal(0, 1));
         planner.move(0, -62, 60);
         Check.equal("14: distance 124", 1, planner.signal(0, 0));
         planner.move(0, 0, 1);
@@ -466,6 +474,11 @@ public final class PromiseTest {
         Check.equal("17: full", 100, planner.use(1));
         planner.turn(1);
         Check.equal("17: off", 0, planner.use(1));
+        CellPlanner small = new CellPlanner();
+        small.cell(0, 0, 0, 1);
+        small.walker(0, 0, 1);
+        small.tick(1);
+        Check.equal("17: a room of 1", 100, small.use(0));
     }
 
     private static void promise18ServedBy() {
@@ -559,6 +572,14 @@ public final class PromiseTest {
             crossAtOnce(planner, ring % 2 == 0 ? 20 : -20);
             Check.equal("22: each way back rings", ring, planner.rings());
         }
+        CellPlanner first = new CellPlanner();
+        first.cell(0, 0, 0, 40);
+        first.cell(20, 0, 1, 40);
+        first.walker(20, 0, 1);
+        first.tick(1);
+        crossAtOnce(first, -20);
+        Check.equal("22: a first handover to cell 0", 1, first.handovers());
+        Check.equal("22: does not ring either", 0, first.rings());
     }
 
     private static void promise22RingsForgotten() {
@@ -716,5 +737,49 @@ public final class PromiseTest {
         Check.equal("27: 0 goes to the lower cell", 0, mixed.bestCell(0));
         Check.equal("27: so 1 goes to the other one", 1, mixed.bestCell(1));
         Check.equal("27: and 2 fits beside 0", 0, mixed.bestCell(2));
+    }
+
+    private static void promise27BestCellByQuality() {
+        CellPlanner planner = new CellPlanner();
+        planner.cell(0, 0, 0, 10);
+        planner.cell(0, 6, 1, 10);
+        planner.walker(0, 4, 5);
+        Check.equal("27: the nearer cell, though the number is higher", 1, planner.bestCell(0));
+        planner.walker(0, 5, 8);
+        Check.equal("27: room for one, which needs it more", 0, planner.bestCell(0));
+        Check.equal("27: it has the greater sum", 1, planner.bestCell(1));
+        planner.move(0, 0, -1);
+        planner.move(1, 0, -2);
+        planner.bound(10000);
+        Check.equal("27: nobody reaches the bound", 0, planner.mostServed());
+        Check.equal("27: nobody reaches the bound, 0", NONE, planner.bestCell(0));
+        Check.equal("27: nobody reaches the bound, 1", NONE, planner.bestCell(1));
+        CellPlanner demands = new CellPlanner();
+        demands.cell(0, 0, 0, 2);
+        demands.walker(0, 4, 1);
+        demands.walker(0, 4, 2);
+        Check.equal("27: demands do not count", 0, demands.bestCell(0));
+        Check.equal("27: the number of the walker does", NONE, demands.bestCell(1));
+    }
+
+    private static void promise27FullLand() {
+        CellPlanner planner = new CellPlanner();
+        for (int cell = 0; cell < 5; cell++) {
+            planner.cell(cell * 10, 0, cell % 3, 10);
+        }
+        for (int walker = 0; walker < 6; walker++) {
+            planner.walker(50 - walker * 10, 0, 10);
+        }
+        planner.bound(1);
+        Check.equal("27: as many as there are cells", 5, planner.mostServed());
+        Check.equal("27: all rooms full", 50, planner.mostDemand());
+        for (int walker = 1; walker < 6; walker++) {
+            Check.equal("27: each at its own cell", 5 - walker, planner.bestCell(walker));
+        }
+        Check.equal("27: but the one beside", NONE, planner.bestCell(0));
+        Check.equal("27: a tick takes them as they come", 0, planner.tick(1));
+        Check.equal("27: walker 0 takes the last cell", 4, planner.servedBy(0));
+        Check.equal("27: walker 1 the one before", 3, planner.servedBy(1));
+        Check.equal("27: walker 5 finds no room", 32, planner.unserved());
     }
 }
