@@ -1,16 +1,34 @@
+import java.util.Arrays;
+
 /** Counts the answers that are not due and prints each of them. */
 final class Check {
     private static int asked = 0;
     private static int wrong = 0;
+    private static int sentences = 0;
+    private static int askedBefore = 0;
+    private static String sentence = "";
 
     private Check() {
+    }
+
+    /** What is checked from here on tests this sentence of the document. */
+    static void sentence(String text) {
+        endSentence();
+        sentences++;
+        sentence = text;
     }
 
     static void equal(String what, long due, long got) {
         asked++;
         if (due != got) {
-            wrong++;
-            System.out.println(what + ": answered " + got + ", due is " + due);
+            fail(what + ": answered " + got + ", due is " + due);
+        }
+    }
+
+    static void equal(String what, int[] due, int[] got) {
+        asked++;
+        if (!Arrays.equals(due, got)) {
+            fail(what + ": answered " + Arrays.toString(got) + ", due is " + Arrays.toString(due));
         }
     }
 
@@ -30,7 +48,7 @@ final class Check {
         thrown(what, IndexOutOfBoundsException.class, call);
     }
 
-    private static void thrown(String what, Class<?> due, Runnable call) {
+    static void thrown(String what, Class<?> due, Runnable call) {
         asked++;
         Object got = null;
         try {
@@ -39,15 +57,28 @@ final class Check {
             got = e.getClass();
         }
         if (due != got) {
-            wrong++;
-            System.out.println(what + ": threw " + got + ", due is " + due);
+            fail(what + ": threw " + got + ", due is " + due);
         }
     }
 
     static void end(String test) {
-        System.out.println(test + ": " + asked + " answers, " + wrong + " of them wrong");
+        endSentence();
+        String counted = sentences > 0 ? sentences + " sentences, " : "";
+        System.out.println(test + ": " + counted + asked + " answers, " + wrong + " of them wrong");
         if (wrong != 0) {
             System.exit(1);
         }
+    }
+
+    private static void endSentence() {
+        if (sentences > 0 && asked == askedBefore) {
+            fail("nothing is checked");
+        }
+        askedBefore = asked;
+    }
+
+    private static void fail(String text) {
+        wrong++;
+        System.out.println(sentence.isEmpty() ? text : "\"" + sentence + "\": " + text);
     }
 }
