@@ -3,29 +3,30 @@ public final class AssignmentsBoundaryTest {
     private static final int NONE = CellPlanner.NONE;
 
     public static void main(String[] args) {
-        mostServedWithoutAny();
-        mostServedOverAllAssignments();
-        mostServedByCellsThatAreOn();
-        mostServedToOneOrToNone();
-        mostServedAtLeastTheBound();
-        mostServedWithTheUsesOfNow();
-        mostServedNoLoadAboveItsRoom();
-        mostServedWhoeverIsServedNow();
-        mostDemandWithoutAny();
-        mostDemandIsTheGreatestSum();
-        mostDemandOfAllWalkers();
-        mostDemandOverAllTheseAssignments();
-        bestCellWithMostServed();
-        bestCellWithMostServedBeforeQualities();
-        bestCellWithTheGreatestQualities();
-        bestCellWithTheUsesOfNow();
-        bestCellLower();
-        bestCellOfTheLowestWalkerWhoDiffers();
-        bestCellNoneIsTheHighest();
-        bestCellNone();
-        bestCellOverAllTheseAssignments();
-        bestCellNoSuchWalker();
-        askingChangesNothing();
+        Check.all(
+                AssignmentsBoundaryTest::mostServedWithoutAny,
+                AssignmentsBoundaryTest::mostServedOverAllAssignments,
+                AssignmentsBoundaryTest::mostServedByCellsThatAreOn,
+                AssignmentsBoundaryTest::mostServedToOneOrToNone,
+                AssignmentsBoundaryTest::mostServedAtLeastTheBound,
+                AssignmentsBoundaryTest::mostServedWithTheUsesOfNow,
+                AssignmentsBoundaryTest::mostServedNoLoadAboveItsRoom,
+                AssignmentsBoundaryTest::mostServedWhoeverIsServedNow,
+                AssignmentsBoundaryTest::mostDemandWithoutAny,
+                AssignmentsBoundaryTest::mostDemandIsTheGreatestSum,
+                AssignmentsBoundaryTest::mostDemandOfAllWalkers,
+                AssignmentsBoundaryTest::mostDemandOverAllTheseAssignments,
+                AssignmentsBoundaryTest::bestCellWithMostServed,
+                AssignmentsBoundaryTest::bestCellWithMostServedBeforeQualities,
+                AssignmentsBoundaryTest::bestCellWithTheGreatestQualities,
+                AssignmentsBoundaryTest::bestCellWithTheUsesOfNow,
+                AssignmentsBoundaryTest::bestCellLower,
+                AssignmentsBoundaryTest::bestCellOfTheLowestWalkerWhoDiffers,
+                AssignmentsBoundaryTest::bestCellNoneIsTheHighest,
+                AssignmentsBoundaryTest::bestCellNone,
+                AssignmentsBoundaryTest::bestCellOverAllTheseAssignments,
+                AssignmentsBoundaryTest::bestCellNoSuchWalker,
+                AssignmentsBoundaryTest::askingChangesNothing);
         Check.end("AssignmentsBoundaryTest");
     }
 
@@ -345,6 +346,12 @@ public final class AssignmentsBoundaryTest {
         planner.turn(0);
         planner.tick(1);
         bestCells("whoever is served now", planner, 0, 1);
+        CellPlanner same = walkersAt(Lands.cellsAt(40, 0, 0), 0, 6);
+        same.turn(0);
+        same.tick(1);
+        same.turn(0);
+        Check.equal("served by cell 1", 1, same.servedBy(0));
+        bestCells("but cell 0 is as good", same, 0);
     }
 
     private static void bestCellNoSuchWalker() {

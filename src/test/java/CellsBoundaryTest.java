@@ -7,40 +7,41 @@ public final class CellsBoundaryTest {
     private static final Scene[] SETTLED = Scene.SETTLED;
 
     public static void main(String[] args) {
-        scenesAreAsTheySay();
-        newObject();
-        cellX();
-        cellY();
-        cellChannel();
-        cellRoom();
-        cellIsOn();
-        cellNumber();
-        cellArgumentOutOfRange();
-        cellLimit();
-        cellBothExceptions();
-        turnWithoutWalkers();
-        turnReleasesAllItsWalkers();
-        turnIsNoLoss();
-        turnKeepsFavourites();
-        turnAnswers();
-        turnNoSuchCell();
-        tuneChannel();
-        tuneAnswers();
-        tuneNoSuchCell();
-        tuneBothExceptions();
-        walkerX();
-        walkerY();
-        walkerDemand();
-        walkerServedByNone();
-        walkerNumber();
-        walkerArgumentOutOfRange();
-        walkerLimit();
-        walkerBothExceptions();
-        moveToTheEdges();
-        moveAnyInt();
-        moveOutOfTheLand();
-        moveNoSuchWalker();
-        moveBothExceptions();
+        Check.all(
+                CellsBoundaryTest::scenesAreAsTheySay,
+                CellsBoundaryTest::newObject,
+                CellsBoundaryTest::cellX,
+                CellsBoundaryTest::cellY,
+                CellsBoundaryTest::cellChannel,
+                CellsBoundaryTest::cellRoom,
+                CellsBoundaryTest::cellIsOn,
+                CellsBoundaryTest::cellNumber,
+                CellsBoundaryTest::cellArgumentOutOfRange,
+                CellsBoundaryTest::cellLimit,
+                CellsBoundaryTest::cellBothExceptions,
+                CellsBoundaryTest::turnWithoutWalkers,
+                CellsBoundaryTest::turnReleasesAllItsWalkers,
+                CellsBoundaryTest::turnIsNoLoss,
+                CellsBoundaryTest::turnKeepsFavourites,
+                CellsBoundaryTest::turnAnswers,
+                CellsBoundaryTest::turnNoSuchCell,
+                CellsBoundaryTest::tuneChannel,
+                CellsBoundaryTest::tuneAnswers,
+                CellsBoundaryTest::tuneNoSuchCell,
+                CellsBoundaryTest::tuneBothExceptions,
+                CellsBoundaryTest::walkerX,
+                CellsBoundaryTest::walkerY,
+                CellsBoundaryTest::walkerDemand,
+                CellsBoundaryTest::walkerServedByNone,
+                CellsBoundaryTest::walkerNumber,
+                CellsBoundaryTest::walkerArgumentOutOfRange,
+                CellsBoundaryTest::walkerLimit,
+                CellsBoundaryTest::walkerBothExceptions,
+                CellsBoundaryTest::moveToTheEdges,
+                CellsBoundaryTest::moveAnyInt,
+                CellsBoundaryTest::moveOutOfTheLand,
+                CellsBoundaryTest::moveNoSuchWalker,
+                CellsBoundaryTest::moveBothExceptions);
         Check.end("CellsBoundaryTest");
     }
 

@@ -11,6 +11,19 @@ final class Check {
     private Check() {
     }
 
+    /** Runs each of the tests, also if one before it has thrown. */
+    static void all(Runnable... tests) {
+        for (Runnable test : tests) {
+            sentence = "";
+            try {
+                test.run();
+            } catch (RuntimeException e) {
+                fail("threw, as no call of it should");
+                e.printStackTrace(System.out);
+            }
+        }
+    }
+
     /** What is checked from here on tests this sentence of the document. */
     static void sentence(String text) {
         endSentence();

@@ -3,30 +3,33 @@ public final class HandoverBoundaryTest {
     private static final int NONE = CellPlanner.NONE;
 
     public static void main(String[] args) {
-        favouriteIsAnotherCell();
-        favouriteIsOn();
-        favouriteHasRoom();
-        favouriteIsTheBest();
-        favouriteOfSeveral();
-        favouriteAtLeastTheMargin();
-        heldOneTickLonger();
-        heldForOneTick();
-        heldAsLongAsThePatience();
-        handedOverHasNone();
-        soughtOnlyIfNoneAtTheBeginning();
-        soughtIsOn();
-        soughtHasRoom();
-        soughtAtLeastTheBound();
-        soughtIsTheBest();
-        soughtOfSeveral();
-        soughtIfThereIsOne();
-        withoutCellNoFavourite();
-        ringsByTheCellBefore();
-        ringsAtMostFiveTicksAgo();
-        ringsWithinOneCall();
-        ringsNotAfterALoss();
-        ringsAfterTurningOff();
-        rulesAtFirst();
+        Check.all(
+                HandoverBoundaryTest::favouriteIsAnotherCell,
+                HandoverBoundaryTest::favouriteIsOn,
+                HandoverBoundaryTest::favouriteHasRoom,
+                HandoverBoundaryTest::favouriteIsTheBest,
+                HandoverBoundaryTest::favouriteOfSeveral,
+                HandoverBoundaryTest::favouriteAtLeastTheMargin,
+                HandoverBoundaryTest::heldOneTickLonger,
+                HandoverBoundaryTest::heldForOneTick,
+                HandoverBoundaryTest::heldAsLongAsThePatience,
+                HandoverBoundaryTest::handedOverHasNone,
+                HandoverBoundaryTest::soughtOnlyIfNoneAtTheBeginning,
+                HandoverBoundaryTest::soughtIsOn,
+                HandoverBoundaryTest::soughtHasRoom,
+                HandoverBoundaryTest::soughtAtLeastTheBound,
+                HandoverBoundaryTest::soughtIsTheBest,
+                HandoverBoundaryTest::soughtOfSeveral,
+                HandoverBoundaryTest::soughtIfThereIsOne,
+                HandoverBoundaryTest::withoutCellNoFavourite,
+                HandoverBoundaryTest::ringsByTheCellBefore,
+                HandoverBoundaryTest::ringsNotByTheFirst,
+                HandoverBoundaryTest::ringsAtMostFiveTicksAgo,
+                HandoverBoundaryTest::ringsByTheTimeOfTheLast,
+                HandoverBoundaryTest::ringsAfterPatience,
+                HandoverBoundaryTest::ringsNotAfterALoss,
+                HandoverBoundaryTest::ringsAfterTurningOff,
+                HandoverBoundaryTest::rulesAtFirst);
         Check.end("HandoverBoundaryTest");
     }
 
@@ -368,6 +371,22 @@ public final class HandoverBoundaryTest {
         Check.equal("of all", 6, planner.handovers());
     }
 
+    private static void ringsNotByTheFirst() {
+        Check.sentence("A handover rings if the walker is handed over to the cell that had served it"
+                + " until its last handover: if there was one");
+        CellPlanner planner = Lands.cellsAt(40, 0, 20);
+        for (int walker = 0; walker < 6; walker++) {
+            planner.walker(20, 0, 1);
+        }
+        planner.tick(1);
+        planner.patience(1);
+        for (int walker = 0; walker < 6; walker++) {
+            planner.move(walker, -20, 0);
+        }
+        Check.equal("all to cell 0 in the second tick", 6, planner.tick(1));
+        Check.equal("which had served none of them", 0, planner.rings());
+    }
+
     private static void ringsAtMostFiveTicksAgo() {
         Check.sentence("and that handover was at most 5 ticks ago");
         for (int ago = 1; ago <= 8; ago++) {
@@ -383,7 +402,24 @@ public final class HandoverBoundaryTest {
         }
     }
 
-    private static void ringsWithinOneCall() {
+    private static void ringsByTheTimeOfTheLast() {
+        Check.sentence("and that handover was at most 5 ticks ago: the last one, not one before");
+        CellPlanner planner = Lands.twoCells();
+        Lands.crossAtOnce(planner, 20);
+        planner.tick(5);
+        Lands.crossAtOnce(planner, -20);
+        Check.equal("6 ticks ago", 0, planner.rings());
+        planner.tick(4);
+        Lands.crossAtOnce(planner, 20);
+        Check.equal("5 ticks ago, and 11 the one before", 1, planner.rings());
+        planner.tick(5);
+        Lands.crossAtOnce(planner, -20);
+        Check.equal("6 ticks ago", 1, planner.rings());
+        Lands.crossAtOnce(planner, 20);
+        Check.equal("1 tick ago", 2, planner.rings());
+    }
+
+    private static void ringsAfterPatience() {
         Check.sentence("and that handover was at most 5 ticks ago: held ones");
         for (int patience = 1; patience <= 8; patience++) {
             CellPlanner planner = Lands.twoCells();

@@ -5,59 +5,43 @@ public final class PromiseTest {
     private static final int HIGHEST = Integer.MAX_VALUE;
 
     public static void main(String[] args) {
-        promise1NewObject();
-        promise2Cell();
-        promise3Turn();
-        promise3TurnAndFavourites();
-        promise4Tune();
-        promise5Walker();
-        promise6Move();
-        promise7Margin();
-        promise8Patience();
-        promise9Bound();
-        promise10Tick();
-        promise10Seeking();
-        promise10OrderAndRoom();
-        promise10UsesOfTheBeginning();
-        promise11Ticks();
-        promise12Cells();
-        promise13Walkers();
-        promise14Signal();
-        promise15Quality();
-        promise16Load();
-        promise17Use();
-        promise18ServedBy();
-        promise19Favourite();
-        promise20HeldFor();
-        promise21Handovers();
-        promise22Rings();
-        promise22RingsForgotten();
-        promise23Losses();
-        promise24Unserved();
-        promise25MostServed();
-        promise26MostDemand();
-        promise27BestCell();
-        promise27BestCellOfSeveral();
-        promise27BestCellByQuality();
-        promise27FullLand();
+        Check.all(
+                PromiseTest::promise1NewObject,
+                PromiseTest::promise2Cell,
+                PromiseTest::promise3Turn,
+                PromiseTest::promise3TurnAndFavourites,
+                PromiseTest::promise4Tune,
+                PromiseTest::promise5Walker,
+                PromiseTest::promise6Move,
+                PromiseTest::promise7Margin,
+                PromiseTest::promise8Patience,
+                PromiseTest::promise9Bound,
+                PromiseTest::promise10Tick,
+                PromiseTest::promise10Seeking,
+                PromiseTest::promise10OrderAndRoom,
+                PromiseTest::promise10UsesOfTheBeginning,
+                PromiseTest::promise11Ticks,
+                PromiseTest::promise12Cells,
+                PromiseTest::promise13Walkers,
+                PromiseTest::promise14Signal,
+                PromiseTest::promise15Quality,
+                PromiseTest::promise16Load,
+                PromiseTest::promise17Use,
+                PromiseTest::promise18ServedBy,
+                PromiseTest::promise19Favourite,
+                PromiseTest::promise20HeldFor,
+                PromiseTest::promise21Handovers,
+                PromiseTest::promise22Rings,
+                PromiseTest::promise22RingsForgotten,
+                PromiseTest::promise23Losses,
+                PromiseTest::promise24Unserved,
+                PromiseTest::promise25MostServed,
+                PromiseTest::promise26MostDemand,
+                PromiseTest::promise27BestCell,
+                PromiseTest::promise27BestCellOfSeveral,
+                PromiseTest::promise27BestCellByQuality,
+                PromiseTest::promise27FullLand);
         Check.end("PromiseTest");
-    }
-
-    /** Cells 0 at (0,0) and 1 at (20,0) on channels of their own; walker 0, served by cell 0. */
-    private static CellPlanner twoCells() {
-        CellPlanner planner = new CellPlanner();
-        planner.cell(0, 0, 0, 40);
-        planner.cell(20, 0, 1, 40);
-        planner.walker(0, 0, 4);
-        planner.tick(1);
-        return planner;
-    }
-
-    /** Lets walker 0 of twoCells, who stands at cell 0, be handed over in the next tick. */
-    private static void crossAtOnce(CellPlanner planner, int dx) {
-        planner.patience(1);
-        planner.move(0, dx, 0);
-        planner.tick(1);
     }
 
     private static void promise1NewObject() {
@@ -106,7 +90,7 @@ public final class PromiseTest {
     }
 
     private static void promise3Turn() {
-        CellPlanner planner = twoCells();
+        CellPlanner planner = Lands.twoCells();
         planner.walker(20, 0, 5);
         planner.tick(1);
         Check.badIndex("3: no cell -1", () -> planner.turn(-1));
@@ -126,7 +110,7 @@ public final class PromiseTest {
     }
 
     private static void promise3TurnAndFavourites() {
-        CellPlanner planner = twoCells();
+        CellPlanner planner = Lands.twoCells();
         planner.patience(3);
         planner.move(0, 20, 0);
         planner.tick(1);
@@ -245,7 +229,7 @@ public final class PromiseTest {
     }
 
     private static void promise8Patience() {
-        CellPlanner planner = twoCells();
+        CellPlanner planner = Lands.twoCells();
         Check.badArgument("8: patience 0", () -> planner.patience(0));
         Check.badArgument("8: patience 11", () -> planner.patience(11));
         Check.equal("8: at first", 2, planner.patience(10));
@@ -285,7 +269,7 @@ public final class PromiseTest {
     }
 
     private static void promise10Tick() {
-        CellPlanner planner = twoCells();
+        CellPlanner planner = Lands.twoCells();
         Check.badArgument("10: 0 ticks", () -> planner.tick(0));
         Check.badArgument("10: 21 ticks", () -> planner.tick(21));
         Check.badArgument("10: fewer than none", () -> planner.tick(LOWEST));
@@ -444,7 +428,7 @@ public final class PromiseTest {
     }
 
     private static void promise16Load() {
-        CellPlanner planner = twoCells();
+        CellPlanner planner = Lands.twoCells();
         planner.walker(0, 0, 10);
         planner.walker(20, 0, 3);
         Check.badIndex("16: no cell -1", () -> planner.load(-1));
@@ -482,19 +466,19 @@ public final class PromiseTest {
     }
 
     private static void promise18ServedBy() {
-        CellPlanner planner = twoCells();
+        CellPlanner planner = Lands.twoCells();
         planner.walker(63, 63, 1);
         planner.tick(1);
         Check.badIndex("18: no walker -1", () -> planner.servedBy(-1));
         Check.badIndex("18: no walker 2", () -> planner.servedBy(2));
         Check.equal("18: served", 0, planner.servedBy(0));
         Check.equal("18: too far off", NONE, planner.servedBy(1));
-        crossAtOnce(planner, 20);
+        Lands.crossAtOnce(planner, 20);
         Check.equal("18: handed over", 1, planner.servedBy(0));
     }
 
     private static void promise19Favourite() {
-        CellPlanner planner = twoCells();
+        CellPlanner planner = Lands.twoCells();
         Check.badIndex("19: no walker -1", () -> planner.favourite(-1));
         Check.badIndex("19: no walker 1", () -> planner.favourite(1));
         Check.equal("19: its own cell is best", NONE, planner.favourite(0));
@@ -518,7 +502,7 @@ public final class PromiseTest {
     }
 
     private static void promise20HeldFor() {
-        CellPlanner planner = twoCells();
+        CellPlanner planner = Lands.twoCells();
         Check.badIndex("20: no walker -1", () -> planner.heldFor(-1));
         Check.badIndex("20: no walker 1", () -> planner.heldFor(1));
         Check.equal("20: no favourite", 0, planner.heldFor(0));
@@ -543,11 +527,11 @@ public final class PromiseTest {
     }
 
     private static void promise21Handovers() {
-        CellPlanner planner = twoCells();
+        CellPlanner planner = Lands.twoCells();
         Check.equal("21: the first cell is no handover", 0, planner.handovers());
-        crossAtOnce(planner, 20);
+        Lands.crossAtOnce(planner, 20);
         Check.equal("21: one", 1, planner.handovers());
-        crossAtOnce(planner, -20);
+        Lands.crossAtOnce(planner, -20);
         Check.equal("21: two", 2, planner.handovers());
         planner.turn(0);
         planner.bound(1);
@@ -557,19 +541,19 @@ public final class PromiseTest {
 
     private static void promise22Rings() {
         for (int between = 1; between <= 7; between++) {
-            CellPlanner planner = twoCells();
-            crossAtOnce(planner, 20);
+            CellPlanner planner = Lands.twoCells();
+            Lands.crossAtOnce(planner, 20);
             Check.equal("22: a first handover does not ring", 0, planner.rings());
             if (between > 1) {
                 planner.tick(between - 1);
             }
-            crossAtOnce(planner, -20);
+            Lands.crossAtOnce(planner, -20);
             Check.equal("22: handovers", 2, planner.handovers());
             Check.equal("22: back after ticks " + between, between <= 5 ? 1 : 0, planner.rings());
         }
-        CellPlanner planner = twoCells();
+        CellPlanner planner = Lands.twoCells();
         for (int ring = 0; ring < 4; ring++) {
-            crossAtOnce(planner, ring % 2 == 0 ? 20 : -20);
+            Lands.crossAtOnce(planner, ring % 2 == 0 ? 20 : -20);
             Check.equal("22: each way back rings", ring, planner.rings());
         }
         CellPlanner first = new CellPlanner();
@@ -577,47 +561,47 @@ public final class PromiseTest {
         first.cell(20, 0, 1, 40);
         first.walker(20, 0, 1);
         first.tick(1);
-        crossAtOnce(first, -20);
+        Lands.crossAtOnce(first, -20);
         Check.equal("22: a first handover to cell 0", 1, first.handovers());
         Check.equal("22: does not ring either", 0, first.rings());
     }
 
     private static void promise22RingsForgotten() {
-        CellPlanner round = twoCells();
+        CellPlanner round = Lands.twoCells();
         round.cell(40, 0, 2, 40);
         round.bound(1);
-        crossAtOnce(round, 20);
-        crossAtOnce(round, 20);
+        Lands.crossAtOnce(round, 20);
+        Lands.crossAtOnce(round, 20);
         Check.equal("22: to a third cell", 0, round.rings());
-        crossAtOnce(round, -40);
+        Lands.crossAtOnce(round, -40);
         Check.equal("22: to the cell before the last one", 0, round.rings());
-        crossAtOnce(round, 40);
+        Lands.crossAtOnce(round, 40);
         Check.equal("22: but then back", 1, round.rings());
 
-        CellPlanner lost = twoCells();
-        crossAtOnce(lost, 20);
+        CellPlanner lost = Lands.twoCells();
+        Lands.crossAtOnce(lost, 20);
         lost.move(0, 30, 30);
         lost.tick(1);
         Check.equal("22: a loss", 1, lost.losses());
         lost.move(0, -30, -30);
         lost.tick(1);
-        crossAtOnce(lost, -20);
+        Lands.crossAtOnce(lost, -20);
         Check.equal("22: handed over back", 2, lost.handovers());
         Check.equal("22: but there was a loss", 0, lost.rings());
-        crossAtOnce(lost, 20);
+        Lands.crossAtOnce(lost, 20);
         Check.equal("22: which counts for one handover", 1, lost.rings());
 
-        CellPlanner off = twoCells();
-        crossAtOnce(off, 20);
+        CellPlanner off = Lands.twoCells();
+        Lands.crossAtOnce(off, 20);
         off.turn(1);
         off.turn(1);
         off.tick(1);
-        crossAtOnce(off, -20);
+        Lands.crossAtOnce(off, -20);
         Check.equal("22: a cell turned off is no loss", 1, off.rings());
     }
 
     private static void promise23Losses() {
-        CellPlanner planner = twoCells();
+        CellPlanner planner = Lands.twoCells();
         planner.walker(0, 0, 1);
         planner.tick(1);
         Check.equal("23: none", 0, planner.losses());

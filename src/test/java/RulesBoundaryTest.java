@@ -4,28 +4,29 @@ public final class RulesBoundaryTest {
     private static final Scene[] ALL = Scene.values();
 
     public static void main(String[] args) {
-        marginRange();
-        marginAnswers();
-        marginOfZero();
-        marginOfThousand();
-        patienceRange();
-        patienceAnswers();
-        patienceOfOne();
-        patienceOfTen();
-        patienceLowered();
-        patienceRaised();
-        boundRange();
-        boundAnswers();
-        boundOfOne();
-        boundOfTenThousand();
-        boundOnlyByTicks();
-        tickRange();
-        tickOnEmptyLands();
-        tickOneByOne();
-        tickAnswersNone();
-        tickAnswersAll();
-        tickAnswersItsOwn();
-        ticksPassed();
+        Check.all(
+                RulesBoundaryTest::marginRange,
+                RulesBoundaryTest::marginAnswers,
+                RulesBoundaryTest::marginOfZero,
+                RulesBoundaryTest::marginOfThousand,
+                RulesBoundaryTest::patienceRange,
+                RulesBoundaryTest::patienceAnswers,
+                RulesBoundaryTest::patienceOfOne,
+                RulesBoundaryTest::patienceOfTen,
+                RulesBoundaryTest::patienceLowered,
+                RulesBoundaryTest::patienceRaised,
+                RulesBoundaryTest::boundRange,
+                RulesBoundaryTest::boundAnswers,
+                RulesBoundaryTest::boundOfOne,
+                RulesBoundaryTest::boundOfTenThousand,
+                RulesBoundaryTest::boundOnlyByTicks,
+                RulesBoundaryTest::tickRange,
+                RulesBoundaryTest::tickOnEmptyLands,
+                RulesBoundaryTest::tickOneByOne,
+                RulesBoundaryTest::tickAnswersNone,
+                RulesBoundaryTest::tickAnswersAll,
+                RulesBoundaryTest::tickAnswersItsOwn,
+                RulesBoundaryTest::ticksPassed);
         Check.end("RulesBoundaryTest");
     }
 

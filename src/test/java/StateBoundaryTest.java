@@ -3,33 +3,34 @@ public final class StateBoundaryTest {
     private static final int NONE = CellPlanner.NONE;
 
     public static void main(String[] args) {
-        cells();
-        walkers();
-        signalNearAndFar();
-        signalNoSuchCellOrWalker();
-        qualityWithTheUsesOfNow();
-        qualityOnOrOff();
-        qualityNoSuchCellOrWalker();
-        loadOfNobodyAndOfAll();
-        loadOff();
-        loadNoSuchCell();
-        useFromEmptyToFull();
-        useOff();
-        useNoSuchCell();
-        servedByNone();
-        servedByLastCell();
-        servedByNoSuchWalker();
-        favouriteAsTheTickLeftIt();
-        favouriteNone();
-        favouriteNoSuchWalker();
-        heldForWithoutFavourite();
-        heldForLong();
-        heldForNoSuchWalker();
-        handovers();
-        rings();
-        losses();
-        unservedEmptyAndFull();
-        unservedEachAlone();
+        Check.all(
+                StateBoundaryTest::cells,
+                StateBoundaryTest::walkers,
+                StateBoundaryTest::signalNearAndFar,
+                StateBoundaryTest::signalNoSuchCellOrWalker,
+                StateBoundaryTest::qualityWithTheUsesOfNow,
+                StateBoundaryTest::qualityOnOrOff,
+                StateBoundaryTest::qualityNoSuchCellOrWalker,
+                StateBoundaryTest::loadOfNobodyAndOfAll,
+                StateBoundaryTest::loadOff,
+                StateBoundaryTest::loadNoSuchCell,
+                StateBoundaryTest::useFromEmptyToFull,
+                StateBoundaryTest::useOff,
+                StateBoundaryTest::useNoSuchCell,
+                StateBoundaryTest::servedByNone,
+                StateBoundaryTest::servedByLastCell,
+                StateBoundaryTest::servedByNoSuchWalker,
+                StateBoundaryTest::favouriteAsTheTickLeftIt,
+                StateBoundaryTest::favouriteNone,
+                StateBoundaryTest::favouriteNoSuchWalker,
+                StateBoundaryTest::heldForWithoutFavourite,
+                StateBoundaryTest::heldForLong,
+                StateBoundaryTest::heldForNoSuchWalker,
+                StateBoundaryTest::handovers,
+                StateBoundaryTest::rings,
+                StateBoundaryTest::losses,
+                StateBoundaryTest::unservedEmptyAndFull,
+                StateBoundaryTest::unservedEachAlone);
         Check.end("StateBoundaryTest");
     }
 

@@ -3,24 +3,27 @@ public final class TermsBoundaryTest {
     private static final int NONE = CellPlanner.NONE;
 
     public static void main(String[] args) {
-        calls512();
-        placesAtTheEdges();
-        distanceWithoutSign();
-        roomAtMost();
-        roomOfTheFavourite();
-        useRoundedDown();
-        signalRoundedDown();
-        qualityRoundedDown();
-        qualityWithoutDisturbance();
-        eachOtherCellDisturbs();
-        disturbanceRoundedDownForEachCell();
-        walkersByRisingNumbers();
-        usesOfTheBeginning();
-        usesOfTheBeginningStay();
-        usesOfEachTick();
-        lossBelowTheBound();
-        lossUntilALaterTick();
-        lossIsALoss();
+        Check.all(
+                TermsBoundaryTest::calls512,
+                TermsBoundaryTest::placesAtTheEdges,
+                TermsBoundaryTest::distanceWithoutSign,
+                TermsBoundaryTest::roomAtMost,
+                TermsBoundaryTest::roomOfTheFavourite,
+                TermsBoundaryTest::useRoundedDown,
+                TermsBoundaryTest::useRoundedDownAsItDisturbs,
+                TermsBoundaryTest::signalRoundedDown,
+                TermsBoundaryTest::qualityRoundedDown,
+                TermsBoundaryTest::qualityWithoutDisturbance,
+                TermsBoundaryTest::eachOtherCellDisturbs,
+                TermsBoundaryTest::disturbanceRoundedDownForEachCell,
+                TermsBoundaryTest::walkersByRisingNumbers,
+                TermsBoundaryTest::usesOfTheBeginning,
+                TermsBoundaryTest::usesOfTheBeginningStay,
+                TermsBoundaryTest::usesOfEachTick,
+                TermsBoundaryTest::lossBelowTheBound,
+                TermsBoundaryTest::lossUntilALaterTick,
+                TermsBoundaryTest::lossIsALoss,
+                TermsBoundaryTest::throwingChangesNothing);
         Check.end("TermsBoundaryTest");
     }
 
@@ -131,6 +134,20 @@ public final class TermsBoundaryTest {
             planner.tick(1);
             Check.equal(loadRoomUse[0] + " of " + loadRoomUse[1], loadRoomUse[2], planner.use(0));
         }
+    }
+
+    private static void useRoundedDownAsItDisturbs() {
+        Check.sentence("by its signal for the walker, times its use");
+        CellPlanner planner = new CellPlanner();
+        planner.cell(0, 0, 0, 3);
+        planner.cell(0, 0, 0, 3);
+        planner.walker(0, 0, 2);
+        planner.tick(1);
+        // 4000 times 66 in 100, and not two thirds of 4000.
+        Check.equal("not disturbed", 40000, planner.quality(0, 0));
+        Check.equal("two thirds are 66", 400000 / (10 + 2640), planner.quality(1, 0));
+        planner.tune(1, 1);
+        Check.equal("tuned away", 40000, planner.quality(1, 0));
     }
 
     private static void signalRoundedDown() {
@@ -350,5 +367,46 @@ public final class TermsBoundaryTest {
         planner.move(0, -50, 0);
         planner.tick(1);
         Check.equal("the same walker once more", 2, planner.losses());
+    }
+
+    private static void throwingChangesNothing() {
+        Check.sentence("A call that throws changes nothing.");
+        for (Scene scene : Scene.values()) {
+            CellPlanner planner = scene.make();
+            for (int bad : new int[] {-1, 64, Refusal.LOWEST, Refusal.HIGHEST}) {
+                refusedRanges(planner, bad);
+                refusedNumbers(planner, bad);
+            }
+            Check.equal(scene + " after all of them", scene.future(scene.make()), scene.future(planner));
+        }
+    }
+
+    /** Calls that an argument beyond each range is refused by, in a row on the same object. */
+    private static void refusedRanges(CellPlanner planner, int bad) {
+        Check.badArgument("cell x", () -> planner.cell(bad, 0, 0, 1));
+        Check.badArgument("cell y", () -> planner.cell(0, bad, 0, 1));
+        Check.badArgument("cell channel", () -> planner.cell(0, 0, bad, 1));
+        Check.badArgument("cell room", () -> planner.cell(0, 0, 0, bad));
+        Check.badArgument("walker x", () -> planner.walker(bad, 0, 1));
+        Check.badArgument("walker y", () -> planner.walker(0, bad, 1));
+        Check.badArgument("walker demand", () -> planner.walker(0, 0, bad));
+        Check.badArgument("margin", () -> planner.margin(bad == 64 ? 1001 : bad));
+        Check.badArgument("patience", () -> planner.patience(bad));
+        Check.badArgument("bound", () -> planner.bound(bad == 64 ? 10001 : bad));
+        Check.badArgument("tick", () -> planner.tick(bad));
+    }
+
+    private static void refusedNumbers(CellPlanner planner, int bad) {
+        Check.badIndex("turn", () -> planner.turn(bad));
+        Check.badIndex("tune", () -> planner.tune(bad, 0));
+        Check.badIndex("move", () -> planner.move(bad, 0, 0));
+        Check.badIndex("signal", () -> planner.signal(bad, bad));
+        Check.badIndex("quality", () -> planner.quality(bad, bad));
+        Check.badIndex("load", () -> planner.load(bad));
+        Check.badIndex("use", () -> planner.use(bad));
+        Check.badIndex("servedBy", () -> planner.servedBy(bad));
+        Check.badIndex("favourite", () -> planner.favourite(bad));
+        Check.badIndex("heldFor", () -> planner.heldFor(bad));
+        Check.badIndex("bestCell", () -> planner.bestCell(bad));
     }
 }
