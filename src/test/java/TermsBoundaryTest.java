@@ -4,7 +4,9 @@ public final class TermsBoundaryTest {
 
     public static void main(String[] args) {
         Check.all(
+                TermsBoundaryTest::noCell,
                 TermsBoundaryTest::calls512,
+                TermsBoundaryTest::askedBetween,
                 TermsBoundaryTest::placesAtTheEdges,
                 TermsBoundaryTest::distanceWithoutSign,
                 TermsBoundaryTest::roomAtMost,
@@ -27,6 +29,16 @@ public final class TermsBoundaryTest {
         Check.end("TermsBoundaryTest");
     }
 
+    private static void noCell() {
+        Check.sentence("NONE = -1: No cell.");
+        Check.equal("the constant", -1, NONE);
+        CellPlanner planner = new CellPlanner();
+        planner.walker(0, 0, 1);
+        Check.equal("servedBy", -1, planner.servedBy(0));
+        Check.equal("favourite", -1, planner.favourite(0));
+        Check.equal("bestCell", -1, planner.bestCell(0));
+    }
+
     private static void calls512() {
         Check.sentence("An object is used for at most 512 calls after it has been made");
         CellPlanner planner = new CellPlanner();
@@ -41,6 +53,16 @@ public final class TermsBoundaryTest {
         }
         Check.equal("one in each round but the first", 253, handovers);
         Check.equal("the 512th call", 254 * 20, planner.ticks());
+    }
+
+    private static void askedBetween() {
+        Check.sentence("Walkers are moved and ticks pass by calls; between that, cells and walkers can"
+                + " be asked, also what the best assignment would be.");
+        for (Scene scene : Scene.values()) {
+            CellPlanner asked = scene.make();
+            new Answers(asked).addAll();
+            Check.equal("nothing comes of it", scene.future(scene.make()), scene.future(asked));
+        }
     }
 
     private static void placesAtTheEdges() {
